@@ -43,6 +43,10 @@ public final class Promise04AskAllTest {
         fault("x", 0);
         fault("k", 1);
         fault("kx", 1);
+        fault("k 0 1", 1);
+        fault("ke 0 1", 2);
+        fault("spa 0 1", 3);
+        fault("t 0 1", 1);
         fault("key", 3);
         fault("keyx", 3);
         fault("key ", 4);

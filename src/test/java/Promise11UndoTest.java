@@ -23,6 +23,7 @@ public final class Promise11UndoTest {
         Due.due("the snapshot stays", x.restore(), 6);
         Due.due("undo()", x.undo(), 0);
         mixed();
+        allIsBroughtBack();
         Due.end();
     }
 
@@ -44,5 +45,28 @@ public final class Promise11UndoTest {
         Due.due("undo()", x.undo(), 0);
         Due.same("after undo()", Due.told(x), first);
         Due.due("undo()", x.undo(), -4);
+    }
+
+    // A question can change all at once but for rows, keys and settings.
+    private static void allIsBroughtBack() {
+        KeptPlans x = new KeptPlans();
+        x.make(0, 1, 1, 0, 999);
+        String before = Due.told(x);
+        x.ask(0, 100);
+        Due.due("turned bad", x.count(8), 1);
+        x.undo();
+        Due.same("before a plan turned bad", Due.told(x), before);
+        x.set(3, 1);
+        before = Due.told(x);
+        x.ask(3, 1);
+        Due.due("thrown out for want of room", x.count(9), 1);
+        x.undo();
+        Due.same("before one was thrown out", Due.told(x), before);
+        x.table(0, false, 120);
+        before = Due.told(x);
+        x.make(0, 0, 7, 5, 9);
+        Due.due("the rows that it was made with", x.plan(0, 10), 120);
+        x.undo();
+        Due.same("before one was made in its place", Due.told(x), before);
     }
 }
