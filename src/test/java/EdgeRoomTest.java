@@ -120,6 +120,10 @@ public final class EdgeRoomTest {
         x.make(1, 0, 1, 0, 9);
         Due.due("made now", x.plan(1, 9), 0);
         Due.due("the next", x.oldest(), 2);
+        x.pin(2, true);
+        x.pin(2, false);
+        Due.due("a pin is no use", x.plan(2, 9), 1);
+        Due.due("the next", x.oldest(), 2);
         x.ask(3, 1);
         kept("with room for 3", x, 0, 1, 3);
     }
